@@ -72,6 +72,14 @@ public final class BuysTest {
         y.buyOn(0, 'p', 100, 5);
         Checks.same("behind the payment it takes of the credit", y.credit(0), 200L);
         Checks.same("nothing is owed", y.bucket(0, 'p'), 0L);
+        // It is owed from its day on, though it is told behind the first event.
+        StatementCycle z = house(0);
+        z.pass(5);
+        z.pay(0, 100000);
+        z.buyOn(0, 'c', 100000, 0);
+        Checks.same("all paid", z.owed(0), 0L);
+        z.pass(25);
+        Checks.same("five days of interest", z.interest(0, 0), 342L);
     }
 
     private static void abroad() {
@@ -240,6 +248,7 @@ public final class BuysTest {
         StatementCycle x = house(1000);
         Checks.same("none", x.why(0, 'p', 1000), '-');
         Checks.same("none of them", x.reasons(0, 'p', 1000), 0);
+        Checks.same("none of the least", x.reasons(0, 'p', 1), 0);
         Checks.same("limit", x.why(0, 'p', 1001), 'l');
         Checks.same("one", x.reasons(0, 't', 1001), 1);
         Checks.same("a fifth in cash", x.why(0, 'c', 200), '-');
@@ -267,6 +276,16 @@ public final class BuysTest {
         Checks.same("cash is full", x.why(0, 'c', 1), 'c');
         x.pay(0, 500);
         Checks.same("credit of 200 takes it", x.why(0, 'c', 200), '-');
+        StatementCycle y = house(100000);
+        y.setRate(0, 'c', 3650);
+        y.buyOn(0, 'c', 100000, 0);
+        y.pass(29);
+        y.pay(0, 150000);
+        y.pass(1);
+        y.setLimit(0, 14500);
+        Checks.same("the bucket of cash is just full", y.bucket(0, 'c'), 2900L);
+        Checks.same("the credit takes all", y.why(0, 'c', 50000), '-');
+        Checks.same("the credit takes all but one", y.why(0, 'c', 50001), 'c');
         Checks.fails("why of no kind", ARGUMENT, () -> x.why(0, 'x', 1));
         Checks.fails("why of nothing", ARGUMENT, () -> x.why(0, 'p', 0));
         Checks.fails("why of too much", ARGUMENT, () -> x.why(0, 'p', 1000000));

@@ -26,12 +26,17 @@ final class Checks {
         same(what, answer(call), "throws." + want.getSimpleName());
     }
 
-    /** The answer of a call, or the name of what it throws behind "throws.". */
+    /**
+     * The answer of a call, or the name of what it throws behind "throws."; what was not thrown by a throw of the
+     * class itself, but by the machine or the library, is told behind "machine.".
+     */
     static Object answer(Call call) {
         try {
             return call.run();
         } catch (RuntimeException e) {
-            return "throws." + e.getClass().getSimpleName();
+            String thrower = e.getStackTrace()[0].getClassName();
+            boolean isOwn = thrower.startsWith("StatementCycle") || thrower.startsWith("PlainHouse");
+            return (isOwn ? "throws." : "machine.") + e.getClass().getSimpleName();
         }
     }
 

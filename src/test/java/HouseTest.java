@@ -1,11 +1,16 @@
+import java.lang.reflect.Field;
+import java.util.List;
+
 /** Promises 17, 32, 39 and 41 to 44: points, and sums and shares over the house. */
 public final class HouseTest {
-    public static void main(String[] args) {
+    public static void main(String[] args) throws ReflectiveOperationException {
         points();
         collected();
         checksum();
         missedShare();
         meanOwed();
+        sound();
+        tamperedIsNotSound();
         Checks.end();
     }
 
@@ -120,5 +125,84 @@ public final class HouseTest {
         Checks.same("less credits", x.meanOwed(), 46.5);
         x.open(5);
         Checks.same("of three", x.meanOwed(), 31.0);
+    }
+
+    private static StatementCycle usedHouse() {
+        StatementCycle x = house();
+        x.buy(0, 'p', 20000);
+        x.buy(0, 'c', 30000);
+        x.pay(0, 500);
+        x.returns(0, 2);
+        x.promote(0, 100, 20);
+        x.pass(30);
+        x.buy(0, 't', 4000);
+        x.redeem(0, 7);
+        x.dispute(0, 0);
+        x.pass(30);
+        x.pay(0, 900000);
+        x.plan(0);
+        x.settle(0, 0, true);
+        x.pass(30);
+        x.open(5);
+        return x;
+    }
+
+    private static void sound() {
+        Checks.that("a new house is sound", new StatementCycle().isSound());
+        Checks.that("an account alone is sound", house().isSound());
+        StatementCycle x = usedHouse();
+        Checks.that("a used one is sound", x.isSound());
+        long checksum = x.checksum();
+        x.isSound();
+        Checks.same("it changes nothing", x.checksum(), checksum);
+    }
+
+    // No call can make a house unsound, so the state is reached for by its names.
+    private static void tamperedIsNotSound() throws ReflectiveOperationException {
+        for (String name : new String[] {"balance", "least", "interest"}) {
+            StatementCycle x = usedHouse();
+            Checks.that("sound ahead of it", x.isSound());
+            Object statement = ((Object[]) part(booksOf(x), "statements"))[1];
+            Field f = field(statement, name);
+            f.setLong(statement, f.getLong(statement) + 1);
+            Checks.same("another " + name + " is not sound", x.isSound(), false);
+        }
+        StatementCycle graced = usedHouse();
+        graced.isSound();
+        Object statement = ((Object[]) part(booksOf(graced), "statements"))[2];
+        field(statement, "isWithGrace").setBoolean(statement, !graced.hadGrace(0, 2));
+        Checks.same("another grace is not sound", graced.isSound(), false);
+        StatementCycle paid = usedHouse();
+        paid.isSound();
+        Object first = ((Object[]) part(booksOf(paid), "statements"))[0];
+        field(first, "outcome").setChar(first, 'w');
+        Checks.same("another outcome is not sound", paid.isSound(), false);
+        StatementCycle given = usedHouse();
+        given.isSound();
+        field(booksOf(given), "credit").setLong(booksOf(given), given.credit(0) + 1);
+        Checks.same("credit out of nothing is not sound", given.isSound(), false);
+        for (int b = 0; b < 3; b++) {
+            StatementCycle x = usedHouse();
+            x.isSound();
+            long[] owed = (long[]) part(booksOf(x), "owed");
+            long move = owed[b] + 1;
+            owed[b] -= move;
+            owed[(b + 1) % 3] += move;
+            Checks.same("a bucket below 0 is not sound", x.isSound(), false);
+        }
+    }
+
+    private static Object booksOf(StatementCycle x) throws ReflectiveOperationException {
+        return part(((List<?>) part(x, "accounts")).get(0), "books");
+    }
+
+    private static Object part(Object of, String name) throws ReflectiveOperationException {
+        return field(of, name).get(of);
+    }
+
+    private static Field field(Object of, String name) throws ReflectiveOperationException {
+        Field f = of.getClass().getDeclaredField(name);
+        f.setAccessible(true);
+        return f;
     }
 }

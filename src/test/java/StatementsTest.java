@@ -43,6 +43,12 @@ public final class StatementsTest {
         Checks.same("a buy of the day is of the next one", x.statement(0, 0), 7000L);
         Checks.passTo(x, 360);
         Checks.same("the last one", x.told(0, 11), x.owed(0));
+        x.buyOn(0, 'p', 5000, 330);
+        x.reverse(0, 0);
+        x.reverse(0, 1);
+        Checks.same("the last one by now", x.statement(0, 11), x.owed(0));
+        Checks.same("missing of the last one", x.missing(0), x.least(0, 11));
+        Checks.that("something is missing", x.missing(0) > 0);
         noStatement(x, 12);
     }
 
@@ -137,6 +143,16 @@ public final class StatementsTest {
         x.buy(0, 'p', 2499);
         x.pass(30);
         Checks.same("the balance at most", x.least(0, 0), 2499L);
+        x.redeem(0, 24);
+        x.pay(0, 2490);
+        Checks.same("also what is missing is credit if less is owed", x.credit(0), 15L);
+        StatementCycle one = house();
+        one.buy(0, 'p', 1);
+        one.pass(30);
+        Checks.same("a balance of a cent", one.least(0, 0), 1L);
+        Checks.same("a cent is missing", one.missing(0), 1L);
+        one.pay(0, 1);
+        Checks.same("no more", one.missing(0), 0L);
         StatementCycle y = house();
         y.setRate(0, 'p', 0);
         y.buy(0, 'p', 250099);
@@ -264,6 +280,9 @@ public final class StatementsTest {
     }
 
     private static void plans() {
+        StatementCycle first = house();
+        Checks.same("a plan as the first event", first.plan(0), 0);
+        Checks.fails("and no other", UNSUPPORTED, () -> first.plan(0));
         StatementCycle x = house();
         x.setRate(0, 'c', 3650);
         x.buy(0, 'c', 500000);
