@@ -4,6 +4,15 @@ final class Checks {
         Object run();
     }
 
+    /** Makes the same house each time. */
+    interface Recipe {
+        StatementCycle make();
+    }
+
+    interface Ask {
+        Object of(StatementCycle x);
+    }
+
     private static int made = 0;
     private static int wrong = 0;
 
@@ -26,6 +35,13 @@ final class Checks {
         same(what, answer(call), "throws." + want.getSimpleName());
     }
 
+    /** The call throws, and the house goes on as one of the same recipe that was never asked. */
+    static void refused(String what, Class<? extends RuntimeException> want, Recipe recipe, Ask ask) {
+        StatementCycle x = recipe.make();
+        fails(what, want, () -> ask.of(x));
+        same(what + ", and then the house", Probe.of(x), Probe.of(recipe.make()));
+    }
+
     /**
      * The answer of a call, or the name of what it throws behind "throws."; what was not thrown by a throw of the
      * class itself, but by the machine or the library, is told behind "machine.".
@@ -36,6 +52,8 @@ final class Checks {
         } catch (RuntimeException e) {
             String thrower = e.getStackTrace()[0].getClassName();
             boolean isOwn = thrower.startsWith("StatementCycle") || thrower.startsWith("PlainHouse");
+            // The machine's own exceptions bear a message, those of the class none.
+            isOwn &= e.getMessage() == null;
             return (isOwn ? "throws." : "machine.") + e.getClass().getSimpleName();
         }
     }

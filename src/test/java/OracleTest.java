@@ -1,6 +1,9 @@
 import java.util.Random;
 
-/** Long runs of mixed calls, each answer compared with that of PlainHouse. The seeds are fixed. */
+/**
+ * Long runs of mixed calls, each answer compared with that of PlainHouse. The seeds are fixed. What a run wants to know
+ * for itself it asks PlainHouse, as nothing is promised of an object behind its 512th call.
+ */
 public final class OracleTest {
     private static final int RUNS = 120;
     private static final int CALLS = 512;
@@ -31,13 +34,13 @@ public final class OracleTest {
         int count = 0;
         for (int a = 0; a < 4; a++) {
             int account = a;
-            count += Checks.answer(() -> x.isOff(account)).equals(true) ? 1 : 0;
+            count += Checks.answer(() -> y.isOff(account)).equals(true) ? 1 : 0;
         }
         return count;
     }
 
     private void go(int seed) {
-        for (call = 0; call < CALLS; call++) {
+        while (call < CALLS) {
             int number = call < 2 ? 0 : random.nextInt(60);
             int account = odd() ? random.nextInt(7) - 2 : random.nextInt(2);
             step(seed, number, account);
@@ -58,7 +61,7 @@ public final class OracleTest {
     }
 
     private int someDay() {
-        return odd() ? x.today() + 1 : random.nextInt(x.today() + 1) + (odd() ? -1 : 0);
+        return odd() ? y.today() + 1 : random.nextInt(y.today() + 1) + (odd() ? -1 : 0);
     }
 
     private char kind() {
@@ -66,16 +69,17 @@ public final class OracleTest {
     }
 
     private int event(int account) {
-        int count = account < 0 || Checks.answer(() -> x.events(account)) instanceof String ? 0 : x.events(account);
+        int count = Checks.answer(() -> y.events(account)) instanceof Integer told ? told : 0;
         return odd() || count == 0 ? random.nextInt(62) - 1 : random.nextInt(count);
     }
 
     private int cycle() {
-        return odd() ? random.nextInt(15) - 1 : random.nextInt(x.today() / 30 + 1);
+        return odd() ? random.nextInt(15) - 1 : random.nextInt(y.today() / 30 + 1);
     }
 
     private void both(String what, Checks.Call one, Checks.Call other) {
         Checks.same(what + " at call " + call, Checks.answer(one), Checks.answer(other));
+        call++;
     }
 
     private void step(int seed, int number, int a) {
@@ -87,7 +91,7 @@ public final class OracleTest {
         } else {
             ask(what, number, a);
         }
-        if (call % 16 == 0) {
+        if (call % 16 == 15 && call < CALLS) {
             both(what + " checksum", () -> x.checksum(), () -> y.checksum());
         }
     }
@@ -123,8 +127,8 @@ public final class OracleTest {
     /** Runs differ in how well is paid: not at all, the least, all that is owed, or anything. */
     private void pay(String what, int a) {
         int n = some(1, 9999999);
-        Object owed = Checks.answer(() -> x.owed(a));
-        Object missing = Checks.answer(() -> x.missing(a));
+        Object owed = Checks.answer(() -> y.owed(a));
+        Object missing = Checks.answer(() -> y.missing(a));
         if (paying == 0 && !odd()) {
             return;
         }
