@@ -319,11 +319,17 @@ public final class StatementsTest {
     }
 
     private static void payLeastTo(StatementCycle x, int day) {
+        payMissing(x);
         while (x.today() < day) {
-            x.pass(1);
-            if (x.missing(0) > 0) {
-                x.pay(0, (int) x.missing(0));
-            }
+            int closing = x.today() / 30 * 30 + 30;
+            Checks.passTo(x, Math.min(day, closing));
+            payMissing(x);
+        }
+    }
+
+    private static void payMissing(StatementCycle x) {
+        if (x.missing(0) > 0) {
+            x.pay(0, (int) x.missing(0));
         }
     }
 
