@@ -11,6 +11,7 @@ public final class PromiseEdgesTest {
         creditToTheCent();
         lateFeeTakesNoCredit();
         abroadToTheCent();
+        worthForAll();
         pointsOfHundreds();
         orderOfLaying();
         missingToTheCent();
@@ -19,6 +20,8 @@ public final class PromiseEdgesTest {
         frozenCount();
         allReasons();
         limitsToTheCent();
+        blockedAlone();
+        nothingElseRefuses();
         toldOnce();
         sharesAndMeans();
         Checks.end();
@@ -241,6 +244,22 @@ public final class PromiseEdgesTest {
         Checks.same("owed less the credit", x.owed(0), 500L);
     }
 
+    /** "Sets what a unit of a currency is worth": for all accounts, those opened later too. */
+    private static void worthForAll() {
+        StatementCycle x = Houses.one();
+        for (int currency = 0; currency < 4; currency++) {
+            x.setCurrency(currency, 10000 * currency + 10000);
+        }
+        x.open(9999999);
+        x.pass(1);
+        for (int currency = 0; currency < 4; currency++) {
+            for (int a = 0; a < 2; a++) {
+                int event = x.abroad(a, currency, 10);
+                Checks.same("currency " + currency + " of " + a, x.sum(a, event), 103 * currency + 103);
+            }
+        }
+    }
+
     private static int sumAbroad(int worth, int units) {
         StatementCycle x = Houses.one();
         x.setCurrency(3, worth);
@@ -282,6 +301,10 @@ public final class PromiseEdgesTest {
         Checks.same("999999", pointsOf('p', 999999), 9999L);
         Checks.same("cash", pointsOf('c', 999999), 0L);
         Checks.same("transfers", pointsOf('t', 999999), 0L);
+        StatementCycle y = Houses.one();
+        y.pay(0, 500);
+        y.buy(0, 'p', 300);
+        Checks.same("300 that the credit takes", y.points(0), 3L);
         StatementCycle x = Houses.one();
         x.abroad(0, 0, 97);
         Checks.same("99 abroad", x.points(0), 0L);
@@ -473,6 +496,46 @@ public final class PromiseEdgesTest {
             boolean isDeclined = Checks.answer(() -> x.buy(0, kind, cents)) instanceof String;
             Checks.same("declined of " + set, isDeclined, set != 0);
         }
+    }
+
+    /** "Blocks an account": that one, and buys alone are declined for it. */
+    private static void blockedAlone() {
+        StatementCycle x = Houses.four();
+        x.block(1, true);
+        for (int a = 0; a < 4; a++) {
+            Checks.same("account " + a, x.why(a, 'p', 1), a == 1 ? 'b' : '-');
+        }
+        x.block(2, true);
+        x.block(1, false);
+        for (int a = 0; a < 4; a++) {
+            Checks.same("then account " + a, x.why(a, 'p', 1), a == 2 ? 'b' : '-');
+        }
+    }
+
+    /** Written off, blocked and above its limit, an account refuses buys of today and a plan, and nothing else. */
+    private static void nothingElseRefuses() {
+        StatementCycle x = Houses.off();
+        x.block(0, true);
+        x.setLimit(0, 0);
+        Checks.same("all reasons", x.reasons(0, 'c', 1), 4);
+        Checks.same("setRate", x.setRate(0, 'p', 1), 1);
+        Checks.same("promote", x.promote(0, 1, 1), 2);
+        Checks.same("buyOn", x.buyOn(0, 'c', 300, 206), 3);
+        Checks.same("pay", x.pay(0, 200), 4);
+        Checks.same("returns", x.returns(0, 4), 5);
+        Checks.same("redeem", x.redeem(0, 100), 6);
+        Checks.same("dispute", x.dispute(0, 3), 1);
+        long owed = x.owed(0);
+        Checks.same("settle", x.settle(0, 3, false), owed);
+        Checks.same("reverse", x.reverse(0, 3), owed - 300);
+        Checks.same("pass", x.pass(1), 207);
+        Checks.same("owed", x.owed(0), owed - 300);
+        Checks.same("the first buy", x.reverse(0, 0), 2900L - 100);
+        Checks.same("without it, nothing was missed", x.isOff(0), false);
+        Checks.same("a plan, though blocked", x.plan(0), 7);
+        Checks.same("setLimit", x.setLimit(0, 2801), 0);
+        Checks.same("block", x.block(0, false), true);
+        Checks.same("a buy again", x.buy(0, 'p', 1), 8);
     }
 
     /** "Above the limit", "above a fifth of the limit, cut". */

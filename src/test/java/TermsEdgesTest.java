@@ -10,6 +10,7 @@ public final class TermsEdgesTest {
     public static void main(String[] args) {
         cyclesOfThirtyDays();
         daysThatAccrue();
+        accruesBesideCredit();
         closingGoesAheadOfEvents();
         eventsOfADayInTheOrderOfTheirNumbers();
         daysOnWhichStatementsAreDue();
@@ -24,16 +25,20 @@ public final class TermsEdgesTest {
         graceCycles();
         daysThatCountAsPaid();
         inFullToTheCent();
+        paidTooMuch();
         leastToTheCent();
         leastWithFees();
         lateFeeOfSixAhead();
         sixthMissed();
         sixInTheMiddle();
         writtenOffDay();
+        writtenOffAndDue();
         planDays();
+        planAndMissed();
         planOnTheDayOfClosing();
         frozenDays();
         frozenAtLeastNothing();
+        frozenTogether();
         Checks.end();
     }
 
@@ -92,6 +97,17 @@ public final class TermsEdgesTest {
         Checks.same("it is not owed within a cycle", y.bucket(0, 'c'), DAILY + 250L);
         y.pass(1);
         Checks.same("30 days have", y.bucket(0, 'c'), DAILY + 250 + atRate((DAILY + 250L) * 30, 2500));
+    }
+
+    /** "Each bucket accrues what is owed in it": the credit lessens nothing of that. */
+    private static void accruesBesideCredit() {
+        StatementCycle x = freePurchases();
+        x.buy(0, 'c', DAILY);
+        Checks.passTo(x, 29);
+        x.pay(0, DAILY + 1000);
+        Checks.passTo(x, 60);
+        Checks.same("the interest took nothing of the credit", x.credit(0), 1000L);
+        Checks.same("interest of the interest", x.interest(0, 1), atRate(29 * 250L * 30, 2500));
     }
 
     /** "First, on a day that begins a cycle, the cycle ahead of it is closed. Then its events are gone through." */
@@ -485,6 +501,21 @@ public final class TermsEdgesTest {
         Checks.same("but the balance is less", paidOn(29, 3000, 55, 2000), 'f');
     }
 
+    /** "What was paid since they were closed": what was paid too much for one statement counts for that one alone. */
+    private static void paidTooMuch() {
+        StatementCycle x = freePurchases();
+        x.buy(0, 'p', 10000);
+        x.pass(30);
+        x.pay(0, 20000);
+        x.buy(0, 'p', 15000);
+        x.pass(30);
+        Checks.same("balance with 10000 paid too much", x.statement(0, 1), 5000L);
+        Checks.same("its least payment", x.missing(0), 2500L);
+        x.pass(26);
+        Checks.same("the first one", x.paid(0, 0), 'f');
+        Checks.same("the second one", x.paid(0, 1), 'm');
+    }
+
     private static char paidAll(int balance, int cents) {
         StatementCycle x = house();
         x.buy(0, 'p', balance);
@@ -689,6 +720,20 @@ public final class TermsEdgesTest {
         Checks.same("no least payment with fees", x.least(0, 7), 0L);
     }
 
+    /** The statements of an account that is written off are due like others. */
+    private static void writtenOffAndDue() {
+        StatementCycle x = Houses.off();
+        Checks.same("six of the one, none of the other", x.missedShare(), 6f / 12f);
+        Checks.passTo(x, 360);
+        Checks.same("six of eleven, none of eleven", x.missedShare(), 6f / 22f);
+        StatementCycle y = Houses.off();
+        // More than is owed, as there is interest of the days ahead of it.
+        y.pay(0, 300000);
+        Checks.passTo(y, 300);
+        Checks.same("paid in full", y.paid(0, 8), 'f');
+        Checks.same("written off from then on all the same", y.isOff(0), true);
+    }
+
     /** "It is on from its day on, for 180 days, that one counted": the interest of a cycle with a plan of a day. */
     private static long interestWithPlan(int day, int cycle) {
         StatementCycle x = freePurchases();
@@ -722,6 +767,24 @@ public final class TermsEdgesTest {
         Checks.same("the day 180 too", interestWithPlan(1, 6), atRate((DAILY + 250L) * 29, 2500));
         Checks.same("up to the day 208", interestWithPlan(29, 6), atRate(DAILY + 29 * 250L, 2500));
         Checks.same("up to the day 209", interestWithPlan(30, 6), 0L);
+    }
+
+    /** A plan goes on when statements are missed, and does not keep an account from being written off. */
+    private static void planAndMissed() {
+        StatementCycle x = freePurchases();
+        x.buy(0, 'c', DAILY);
+        x.plan(0);
+        Checks.passTo(x, 90);
+        Checks.same("missed", x.paid(0, 0), 'm');
+        Checks.same("nothing accrued", x.interest(0, 1) + x.interest(0, 2), 0L);
+        Checks.same("just 2500", x.least(0, 2), 2500L);
+        StatementCycle y = freePurchases();
+        y.buy(0, 'p', 900000);
+        Checks.passTo(y, 100);
+        y.plan(0);
+        Checks.passTo(y, 206);
+        Checks.same("written off with a plan", y.isOff(0), true);
+        Checks.same("its fees", y.owed(0), 900000L + 2500 + 4 * 3500);
     }
 
     private static long leastWithPlan(int day, int cycle, int cents) {
@@ -834,5 +897,23 @@ public final class TermsEdgesTest {
         y.setRate(0, 'c', 9999);
         y.pass(30);
         Checks.same("what is too much frozen takes nothing of another bucket", y.interest(0, 0), rounded(30L * 9999));
+    }
+
+    /** What is frozen of a bucket is all buys of it that are, and none of them is taken back by that. */
+    private static void frozenTogether() {
+        StatementCycle x = house();
+        for (int e = 0; e < 4; e++) {
+            x.buy(0, 'c', DAILY);
+        }
+        x.buy(0, 't', DAILY);
+        for (int e : new int[] {0, 1, 3, 4}) {
+            x.dispute(0, e);
+            Checks.same("event " + e + " is not taken back", x.isBack(0, e), false);
+        }
+        x.pass(10);
+        x.settle(0, 1, false);
+        x.pass(20);
+        Checks.same("one of four for all days, another for twenty", x.interest(0, 0), 30 * 250L + 20 * 250L);
+        Checks.same("all is owed", x.statement(0, 0), 5L * DAILY + 12500);
     }
 }
