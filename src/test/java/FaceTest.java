@@ -8,17 +8,50 @@ import java.util.TreeSet;
 
 /** The public face, and the rules of the language that reflection can see. */
 public final class FaceTest {
+    /** As the document writes it, without the names of parameters, and "Exception" left out of names. */
     private static final String[] FACE = {
-        "int open(int)", "int setLimit(int,int)", "boolean block(int,boolean)", "int setRate(int,char,int)",
-        "int promote(int,int,int)", "int setCurrency(int,int)", "int buy(int,char,int)",
-        "int buyOn(int,char,int,int)", "int abroad(int,int,int)", "int pay(int,int)", "int returns(int,int)",
-        "int dispute(int,int)", "long settle(int,int,boolean)", "long reverse(int,int)", "int plan(int)",
-        "int redeem(int,int)", "int pass(int)", "long owed(int)", "long bucket(int,char)", "long credit(int)",
-        "long statement(int,int)", "long told(int,int)", "long difference(int,int)", "long least(int,int)",
-        "long interest(int,int)", "boolean hadGrace(int,int)", "char paid(int,int)", "long missing(int)",
-        "int missed(int)", "boolean isOff(int)", "long points(int)", "int events(int)", "char kindOf(int,int)",
-        "boolean isBack(int,int)", "int sum(int,int)", "char why(int,char,int)", "int reasons(int,char,int)",
-        "long collected()", "int today()", "long checksum()", "float missedShare()", "double meanOwed()",
+        "int open(int) throws IllegalArgument,IllegalState",
+        "int setLimit(int,int) throws IndexOutOfBounds,IllegalArgument",
+        "boolean block(int,boolean) throws IndexOutOfBounds",
+        "int setRate(int,char,int) throws IndexOutOfBounds,IllegalArgument,IllegalState",
+        "int promote(int,int,int) throws IndexOutOfBounds,IllegalArgument,IllegalState",
+        "int setCurrency(int,int) throws IllegalArgument",
+        "int buy(int,char,int) throws IndexOutOfBounds,IllegalArgument,UnsupportedOperation,IllegalState",
+        "int buyOn(int,char,int,int) throws IndexOutOfBounds,IllegalArgument,IllegalState",
+        "int abroad(int,int,int) throws IndexOutOfBounds,IllegalArgument,UnsupportedOperation,IllegalState",
+        "int pay(int,int) throws IndexOutOfBounds,IllegalArgument,IllegalState",
+        "int returns(int,int) throws IndexOutOfBounds,UnsupportedOperation,IllegalState",
+        "int dispute(int,int) throws IndexOutOfBounds,UnsupportedOperation",
+        "long settle(int,int,boolean) throws IndexOutOfBounds,UnsupportedOperation",
+        "long reverse(int,int) throws IndexOutOfBounds,UnsupportedOperation",
+        "int plan(int) throws IndexOutOfBounds,UnsupportedOperation,IllegalState",
+        "int redeem(int,int) throws IndexOutOfBounds,IllegalArgument,UnsupportedOperation,IllegalState",
+        "int pass(int) throws IllegalArgument,IllegalState",
+        "long owed(int) throws IndexOutOfBounds",
+        "long bucket(int,char) throws IndexOutOfBounds,IllegalArgument",
+        "long credit(int) throws IndexOutOfBounds",
+        "long statement(int,int) throws IndexOutOfBounds,NoSuchElement",
+        "long told(int,int) throws IndexOutOfBounds,NoSuchElement",
+        "long difference(int,int) throws IndexOutOfBounds,NoSuchElement",
+        "long least(int,int) throws IndexOutOfBounds,NoSuchElement",
+        "long interest(int,int) throws IndexOutOfBounds,NoSuchElement",
+        "boolean hadGrace(int,int) throws IndexOutOfBounds,NoSuchElement",
+        "char paid(int,int) throws IndexOutOfBounds,NoSuchElement",
+        "long missing(int) throws IndexOutOfBounds",
+        "int missed(int) throws IndexOutOfBounds",
+        "boolean isOff(int) throws IndexOutOfBounds",
+        "long points(int) throws IndexOutOfBounds",
+        "int events(int) throws IndexOutOfBounds",
+        "char kindOf(int,int) throws IndexOutOfBounds",
+        "boolean isBack(int,int) throws IndexOutOfBounds",
+        "int sum(int,int) throws IndexOutOfBounds",
+        "char why(int,char,int) throws IndexOutOfBounds,IllegalArgument",
+        "int reasons(int,char,int) throws IndexOutOfBounds,IllegalArgument",
+        "long collected()",
+        "int today()",
+        "long checksum()",
+        "float missedShare() throws Arithmetic",
+        "double meanOwed() throws Arithmetic",
         "boolean isSound()",
     };
 
@@ -54,7 +87,11 @@ public final class FaceTest {
         for (Class<?> type : m.getParameterTypes()) {
             types.append(types.length() == 0 ? "" : ",").append(type);
         }
-        return m.getReturnType() + " " + m.getName() + "(" + types + ")";
+        StringBuilder thrown = new StringBuilder();
+        for (Class<?> type : m.getExceptionTypes()) {
+            thrown.append(thrown.length() == 0 ? " throws " : ",").append(type.getSimpleName().replace("Exception", ""));
+        }
+        return m.getReturnType() + " " + m.getName() + "(" + types + ")" + thrown;
     }
 
     private static void ofClass(Class<?> c, Set<String> faceNames) {
